@@ -167,7 +167,15 @@ public final class VoussoirYard {
         if (!wouldBear(place, 0, grip)) {
             throw new NoSuchElementException("the arch would not be safe with the load 0");
         }
-        return greatestLoad(place, grip);
+        // the steps may halve: all conditions are linear in the load too, so what is safe with 0
+        // and with a load is safe with all between
+        int greatest = 0;
+        for (int step = FIRST_LOAD_STEP; step > 0; step /= 2) {
+            if (greatest + step <= MOST_LOAD && wouldBear(place, greatest + step, grip)) {
+                greatest += step;
+            }
+        }
+        return greatest;
     }
 
     public int grip() {
@@ -180,20 +188,6 @@ public final class VoussoirYard {
 
     private static boolean isGrip(int grip) {
         return grip >= 0 && grip <= GREATEST_GRIP;
-    }
-
-    /**
-     * Halves its steps because the loads that are borne have no gap: all conditions are
-     * linear in the load too, so what is safe with 0 and with a load is safe with all between.
-     */
-    private int greatestLoad(int place, int grip) {
-        int greatest = 0;
-        for (int step = FIRST_LOAD_STEP; step > 0; step /= 2) {
-            if (greatest + step <= MOST_LOAD && wouldBear(place, greatest + step, grip)) {
-                greatest += step;
-            }
-        }
-        return greatest;
     }
 
     private boolean wouldBear(int place, int load, int grip) {
@@ -589,22 +583,20 @@ public final class VoussoirYard {
         final int[] y = new int[CORNERS];
 
         void stretch(Joint left, Joint right) {
-            putCorner(0, left.innerX, left.innerY);
-            putCorner(1, right.innerX, right.innerY);
-            putCorner(2, right.outerX, right.outerY);
-            putCorner(3, left.outerX, left.outerY);
+            x[0] = left.innerX;
+            y[0] = left.innerY;
+            x[1] = right.innerX;
+            y[1] = right.innerY;
+            x[2] = right.outerX;
+            y[2] = right.outerY;
+            x[3] = left.outerX;
+            y[3] = left.outerY;
         }
 
         void copyFrom(Quad other) {
             for (int corner = 0; corner < CORNERS; corner++) {
-                putCorner(corner, other.x[corner], other.y[corner]);
-            }
-        }
-
-        private void putCorner(int corner, int cornerX, int cornerY) {
-            if (corner >= 0 && corner < CORNERS) {
-                x[corner] = cornerX;
-                y[corner] = cornerY;
+                x[corner] = other.x[corner];
+                y[corner] = other.y[corner];
             }
         }
 
@@ -630,8 +622,13 @@ public final class VoussoirYard {
             return sum;
         }
 
-        /** Three times the doubled area, times the x of the centre of gravity: a whole number. */
-        int moment() {
+        /** The weight at the density 1. */
+        int lightWeight() {
+            return 3 * doubledArea();
+        }
+
+        /** The weight at the density 1, times the x of the centre of gravity: a whole number. */
+        int lightMoment() {
             int sum = 0;
             for (int corner = 0; corner < CORNERS; corner++) {
                 int next = (corner + 1) % CORNERS;
@@ -738,7 +735,7 @@ public final class VoussoirYard {
         /** The corners of a place, to be used before the next one is asked for; null if there is none. */
         Quad quadOf(int place) {
             Joint left = jointAt(place);
-            Joint right = hasPlace(place) ? jointAt(place + 1) : null;
+            Joint right = left == null ? null : jointAt(place + 1);
             if (left == null || right == null) {
                 return null;
             }
@@ -752,13 +749,8 @@ public final class VoussoirYard {
         }
 
         int weightOf(int place) {
-            return 3 * areaOf(place) * density;
-        }
-
-        /** The weight times the x at which it acts. */
-        int momentOf(int place) {
             Quad shape = quadOf(place);
-            return shape == null ? 0 : shape.moment() * density;
+            return shape == null ? 0 : shape.lightWeight() * density;
         }
 
         int areaOfAll() {
@@ -924,9 +916,10 @@ public final class VoussoirYard {
                 lostForce[joint] = force;
                 lostMoment[joint] = moment;
                 Joint left = drawing.jointAt(joint);
-                if (left != null) {
-                    force += drawing.weightOf(joint) + loads[joint];
-                    moment += drawing.momentOf(joint) + (long) loads[joint] * left.outerX;
+                Quad shape = drawing.quadOf(joint);
+                if (left != null && shape != null) {
+                    force += shape.lightWeight() * drawing.density + loads[joint];
+                    moment += shape.lightMoment() * drawing.density + loads[joint] * left.outerX;
                 }
             }
         }
