@@ -3,6 +3,7 @@ import java.util.Random;
 /** Promises 8 to 10: random drawings, steep, flat, leaning and piled up, against the CornerOracle. */
 public final class ThrustOracleTest {
     private static final int DRAWINGS = 700;
+    private static final int PILES = 1500;
     private static final Random RANDOM = new Random(1);
     private static int safe = 0;
     private static int unsafe = 0;
@@ -10,6 +11,9 @@ public final class ThrustOracleTest {
     public static void main(String[] args) {
         for (int drawing = 0; drawing < DRAWINGS; drawing++) {
             tryDrawing("drawing " + drawing);
+        }
+        for (int pile = 0; pile < PILES; pile++) {
+            tryPile("pile " + pile);
         }
         Due.report("enough drawings were safe, and enough were not", "" + (safe > 300 && unsafe > 300), "true");
         Due.end();
@@ -30,6 +34,30 @@ public final class ThrustOracleTest {
             int[] joint = {near(10 + Math.cos(a) * size + shaken(shake)), near(4 + Math.sin(a) * size + shaken(shake)),
                 near(10 + Math.cos(a) * (size + thick) + shaken(shake)),
                 near(4 + Math.sin(a) * (size + thick) + shaken(shake))};
+            try {
+                yard.drawJoint(joint[0], joint[1], joint[2], joint[3]);
+                joints[count++] = joint;
+            } catch (IllegalArgumentException wrong) {
+                continue;
+            }
+        }
+        if (count >= 3) {
+            compare(name, yard, java.util.Arrays.copyOf(joints, count));
+        }
+    }
+
+    /** Joints that lie, or nearly, one over the other: a wrong side of a joint would pull here. */
+    private static void tryPile(String name) {
+        VoussoirYard yard = new VoussoirYard();
+        int wanted = 3 + RANDOM.nextInt(3);
+        boolean isRising = RANDOM.nextBoolean();
+        int[][] joints = new int[wanted][];
+        int count = 0;
+        for (int tries = 0; tries < 60 && count < wanted; tries++) {
+            int height = 1 + 4 * (isRising ? count : wanted - 1 - count);
+            int inner = RANDOM.nextInt(21);
+            int outer = Math.max(0, Math.min(20, inner + (isRising ? -1 : 1) * (1 + RANDOM.nextInt(8))));
+            int[] joint = {inner, height, outer, height + (RANDOM.nextInt(5) == 0 ? 1 : 0)};
             try {
                 yard.drawJoint(joint[0], joint[1], joint[2], joint[3]);
                 joints[count++] = joint;
