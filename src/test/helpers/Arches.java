@@ -31,6 +31,45 @@ final class Arches {
         return yard;
     }
 
+    /** A beam of squares with the doubled area 32 and the weight 96, blocks enough, and one mason. */
+    static VoussoirYard quarriedBeam(int places, int skill) {
+        VoussoirYard yard = beam(places, 4);
+        yard.addBlocks(4, 4, 99, 1, true);
+        yard.addMason(skill, 1);
+        return yard;
+    }
+
+    /** The same with a stone in the yard for each place, and with a centre: stone n fits each place. */
+    static VoussoirYard readyBeam(int places, int strength) {
+        VoussoirYard yard = quarriedBeam(places, 99);
+        for (int place = 0; place < places; place++) {
+            yard.cut(place, 0, 0);
+        }
+        yard.pass(places);
+        yard.setCentre(strength);
+        return yard;
+    }
+
+    /** The same with the first stones set from the left: stone n in the place n. */
+    static VoussoirYard filledBeam(int places, int filled) {
+        VoussoirYard yard = readyBeam(places, 99999);
+        for (int place = 0; place < filled; place++) {
+            yard.set(place, place);
+        }
+        return yard;
+    }
+
+    /** A pointed arch that stood and fell: stones 0 to 3 are broken, 4 to 7 are in the yard, one for each place. */
+    static VoussoirYard fallen() {
+        VoussoirYard yard = standing();
+        for (int place = 0; place < 4; place++) {
+            yard.cut(place, 0, place);
+        }
+        yard.pass(1);
+        yard.load(1, 20000);
+        return yard;
+    }
+
     /** The pointed arch, cut, set on a centre, old enough for the grip 8, and struck. */
     static VoussoirYard standing() {
         VoussoirYard yard = filled();

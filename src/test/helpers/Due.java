@@ -2,12 +2,18 @@
 final class Due {
     private static int asked = 0;
     private static int wrong = 0;
+    private static String heading = "";
 
     interface Call {
         Object answer();
     }
 
     private Due() {
+    }
+
+    /** What the answers that follow are about; it is printed with each wrong one. */
+    static void under(String newHeading) {
+        heading = newHeading + ": ";
     }
 
     static void is(Object want, String what, Call call) {
@@ -37,7 +43,7 @@ final class Due {
         asked++;
         if (!got.equals(want)) {
             wrong++;
-            System.out.println(what + ": " + got + ", due is " + want);
+            System.out.println(heading + what + ": " + got + ", due is " + want);
         }
     }
 

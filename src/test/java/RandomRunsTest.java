@@ -1,7 +1,5 @@
-import java.lang.reflect.InvocationTargetException;
 import java.lang.reflect.Method;
 import java.util.Arrays;
-import java.util.Comparator;
 import java.util.HashMap;
 import java.util.Map;
 import java.util.Random;
@@ -10,7 +8,7 @@ import java.util.Random;
 public final class RandomRunsTest {
     private static final int RUNS = 160;
     private static final int CALLS = 512;
-    private static final Method[] METHODS = methodsOf(VoussoirYard.class);
+    private static final Method[] METHODS = Calls.methodsOf(VoussoirYard.class);
     private static final Map<String, Integer> ANSWERED = new HashMap<>();
 
     private final Random random;
@@ -40,14 +38,6 @@ public final class RandomRunsTest {
 
     private static void demandSeen(String what) {
         Due.report(what + " was met with an answer", ANSWERED.containsKey(what) ? "yes" : "no", "yes");
-    }
-
-    private static Method[] methodsOf(Class<?> type) {
-        Method[] methods = Arrays.stream(type.getDeclaredMethods())
-            .filter(method -> java.lang.reflect.Modifier.isPublic(method.getModifiers()))
-            .toArray(Method[]::new);
-        Arrays.sort(methods, Comparator.comparing(Method::getName));
-        return methods;
     }
 
     /** Joints round about a middle, shaken a little. */
@@ -185,8 +175,8 @@ public final class RandomRunsTest {
     private void ask(String name, Object... arguments) {
         String what = "run " + run + ": " + name + Arrays.toString(arguments);
         boolean stoodBefore = plain.stands();
-        String want = outcome(plain, name, arguments);
-        String got = outcome(yard, name, arguments);
+        String want = Calls.outcome(plain, name, arguments);
+        String got = Calls.outcome(yard, name, arguments);
         Due.report(what, got, want);
         if (!want.startsWith("throws")) {
             ANSWERED.merge(name, 1, Integer::sum);
@@ -198,20 +188,5 @@ public final class RandomRunsTest {
                 ANSWERED.merge("a strike", 1, Integer::sum);
             }
         }
-    }
-
-    private static String outcome(Object object, String name, Object[] arguments) {
-        for (Method method : object.getClass().getDeclaredMethods()) {
-            if (method.getName().equals(name) && java.lang.reflect.Modifier.isPublic(method.getModifiers())) {
-                try {
-                    return String.valueOf(method.invoke(object, arguments));
-                } catch (InvocationTargetException thrown) {
-                    return Due.describe(thrown.getCause());
-                } catch (IllegalAccessException closed) {
-                    return "cannot be called";
-                }
-            }
-        }
-        return "is not there";
     }
 }

@@ -29,16 +29,8 @@ public final class StonesTest {
         Due.end();
     }
 
-    /** A beam of squares with the doubled area 32, blocks enough, and one mason. */
-    private static VoussoirYard quarriedBeam(int places, int skill) {
-        VoussoirYard yard = Arches.beam(places, 4);
-        yard.addBlocks(4, 4, 99, 1, true);
-        yard.addMason(skill, 1);
-        return yard;
-    }
-
     private static void readyOn() {
-        VoussoirYard yard = quarriedBeam(2, 10);
+        VoussoirYard yard = Arches.quarriedBeam(2, 10);
         yard.addMason(32, 0);
         yard.addMason(31, 0);
         yard.cut(0, 0, 0);
@@ -64,7 +56,7 @@ public final class StonesTest {
     }
 
     private static void readyOnInFrost() {
-        VoussoirYard yard = quarriedBeam(2, 16);
+        VoussoirYard yard = Arches.quarriedBeam(2, 16);
         yard.addMason(32, 0);
         yard.pass(88);
         yard.cut(0, 0, 0);
@@ -79,11 +71,11 @@ public final class StonesTest {
         yard.pass(30);
         yard.cut(0, 0, 1);
         Due.is(122, "the day 121", () -> yard.readyOn(4));
-        VoussoirYard late = quarriedBeam(2, 16);
+        VoussoirYard late = Arches.quarriedBeam(2, 16);
         late.pass(89);
         late.cut(0, 0, 0);
         Due.is(121, "the days 89 and 120", () -> late.readyOn(0));
-        VoussoirYard cold = quarriedBeam(2, 32);
+        VoussoirYard cold = Arches.quarriedBeam(2, 32);
         cold.pass(99);
         cold.cut(0, 0, 0);
         Due.is(121, "told in the frost", () -> cold.readyOn(0));
@@ -92,7 +84,7 @@ public final class StonesTest {
     }
 
     private static void stateOf() {
-        VoussoirYard yard = quarriedBeam(2, 10);
+        VoussoirYard yard = Arches.quarriedBeam(2, 10);
         yard.cut(0, 0, 0);
         Due.is('c', "today", () -> yard.stateOf(0));
         yard.pass(3);
@@ -119,7 +111,7 @@ public final class StonesTest {
     }
 
     private static void marks() {
-        VoussoirYard yard = quarriedBeam(3, 10);
+        VoussoirYard yard = Arches.quarriedBeam(3, 10);
         yard.addMason(10, 0);
         yard.addMason(10, 0);
         yard.addMason(10, 0);
@@ -148,7 +140,7 @@ public final class StonesTest {
     }
 
     private static void longMark() {
-        VoussoirYard yard = quarriedBeam(2, 99);
+        VoussoirYard yard = Arches.quarriedBeam(2, 99);
         for (int move = 0; move < 120; move++) {
             yard.moveJoint(1, 4, 0, 4, 4);
         }
@@ -161,7 +153,7 @@ public final class StonesTest {
     }
 
     private static void fits() {
-        VoussoirYard yard = quarriedBeam(3, 99);
+        VoussoirYard yard = Arches.quarriedBeam(3, 99);
         yard.cut(0, 0, 0);
         for (int place = 0; place < 3; place++) {
             int at = place;
@@ -219,7 +211,7 @@ public final class StonesTest {
     }
 
     private static void set() {
-        VoussoirYard yard = quarriedBeam(3, 10);
+        VoussoirYard yard = Arches.quarriedBeam(3, 10);
         yard.cut(0, 0, 0);
         yard.cut(0, 0, 0);
         for (int number : FAR) {
@@ -246,7 +238,7 @@ public final class StonesTest {
     }
 
     private static void setOrderOfPlaces() {
-        VoussoirYard yard = quarriedBeam(5, 99);
+        VoussoirYard yard = Arches.quarriedBeam(5, 99);
         for (int stone = 0; stone < 5; stone++) {
             yard.cut(0, 0, 0);
         }
@@ -266,19 +258,19 @@ public final class StonesTest {
     }
 
     private static void setOnWeakCentre() {
-        VoussoirYard yard = quarriedBeam(2, 99);
+        VoussoirYard yard = Arches.quarriedBeam(2, 99);
         yard.cut(0, 0, 0);
         yard.cut(0, 0, 0);
         yard.pass(9);
         yard.setCentre(191);
         Due.is(1, "the first one is borne", () -> yard.set(0, 0));
         Due.fails(NOT_NOW, "both are not", () -> yard.set(1, 1));
-        VoussoirYard weak = quarriedBeam(2, 99);
+        VoussoirYard weak = Arches.quarriedBeam(2, 99);
         weak.cut(0, 0, 0);
         weak.pass(9);
         weak.setCentre(95);
         Due.fails(NOT_NOW, "not even one", () -> weak.set(0, 0));
-        VoussoirYard just = quarriedBeam(2, 99);
+        VoussoirYard just = Arches.quarriedBeam(2, 99);
         just.setDensity(2);
         just.cut(0, 0, 0);
         just.cut(0, 0, 0);
@@ -289,7 +281,7 @@ public final class StonesTest {
     }
 
     private static void stoneIn() {
-        VoussoirYard yard = quarriedBeam(2, 99);
+        VoussoirYard yard = Arches.quarriedBeam(2, 99);
         yard.cut(0, 0, 0);
         yard.cut(0, 0, 0);
         yard.pass(9);
@@ -306,7 +298,7 @@ public final class StonesTest {
     }
 
     private static void strike() {
-        VoussoirYard yard = quarriedBeam(2, 99);
+        VoussoirYard yard = Arches.quarriedBeam(2, 99);
         Due.fails(NOT_NOW, "nothing is there", yard::strike);
         yard.cut(0, 0, 0);
         yard.cut(0, 0, 0);
@@ -320,7 +312,7 @@ public final class StonesTest {
         Due.is(true, "it stands", yard::stands);
         Due.fails(NOT_NOW, "the centre is struck", yard::strike);
         Due.is('s', "its stones are set", () -> yard.stateOf(0));
-        VoussoirYard single = quarriedBeam(1, 99);
+        VoussoirYard single = Arches.quarriedBeam(1, 99);
         single.cut(0, 0, 0);
         single.pass(9);
         single.setCentre(99999);
@@ -370,7 +362,7 @@ public final class StonesTest {
         Due.is(true, "again, in place of it", () -> yard.load(2, borne));
         Due.is(false, "one more", () -> yard.load(2, borne + 1));
         Due.fails(NOT_NOW, "there is nothing to load", () -> yard.load(2, 0));
-        VoussoirYard beam = quarriedBeam(2, 99);
+        VoussoirYard beam = Arches.quarriedBeam(2, 99);
         beam.cut(0, 0, 0);
         beam.cut(0, 0, 0);
         beam.pass(2);
