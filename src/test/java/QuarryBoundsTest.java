@@ -434,7 +434,7 @@ public final class QuarryBoundsTest {
         Due.is(2, "the last", () -> yard.readyOn(1));
     }
 
-    /** The day on which a stone of the doubled area 32 is ready, told on the given day to a mason of the given skill. */
+    /** The day on which a stone of the doubled area 32 is ready, told on the given day to a mason of that skill. */
     private static int readyDay(int toldOn, int skill) {
         VoussoirYard yard = Arches.quarriedBeam(1, skill);
         for (int day = 0; day < toldOn; day++) {
@@ -528,7 +528,7 @@ public final class QuarryBoundsTest {
 
     private static void workOverYears() {
         Doc.says("Terms", "each with a skill, the doubled area that is cut in a day");
-        Due.is(90, "90 days fill a year up to the frost", () -> readyAtSkill1(new int[][] {{0, 0, 0, 9}, {5, 0, 5, 9}}));
+        Due.is(90, "90 days fill a year up to frost", () -> readyAtSkill1(new int[][] {{0, 0, 0, 9}, {5, 0, 5, 9}}));
         Due.is(121, "91 days need a day of the next", () -> readyAtSkill1(new int[][] {{0, 0, 0, 9}, {5, 0, 4, 11}}));
         Due.is(210, "180 days fill two", () -> readyAtSkill1(new int[][] {{0, 0, 0, 9}, {10, 0, 10, 9}}));
         Due.is(8 * 120 + 80, "800 days are 8 years and 80 days",
@@ -590,7 +590,7 @@ public final class QuarryBoundsTest {
     }
 
     private static void usedShareOfWholeBlocks() {
-        Doc.says("Promise 31", "Returns the share of the doubled areas of the blocks that were cut which is in stones.");
+        Doc.says("Promise 31", "the share of the doubled areas of the blocks that were cut which is in stones");
         VoussoirYard whole = Arches.quarriedBeam(1, 99);
         for (int stone = 0; stone < 40; stone++) {
             whole.cut(0, 0, 0);

@@ -28,6 +28,7 @@ public final class RefusedCallsTest {
         tryFrom("nothing but a drawing", Arches::pointed);
         tryFrom("one place", () -> Arches.filledBeam(1, 1));
         tryFrom("all that a yard can have", RefusedCallsTest::full);
+        tryFrom("blocks used up and too small", RefusedCallsTest::nearlyUsedUp);
         tryFrom("stones being cut", RefusedCallsTest::busy);
         tryFrom("no centre", RefusedCallsTest::withoutCentre);
         tryFrom("a weak centre", () -> Arches.readyBeam(3, 100));
@@ -53,6 +54,19 @@ public final class RefusedCallsTest {
             yard.cut(stone % 7, stone % 6 == 0 && stone > 0 ? 1 : stone % 6, stone % 4);
         }
         yard.setDensity(2);
+        return yard;
+    }
+
+    /** Of the kind 0 none is left, the kind 1 is too small; both masons have work for some days. */
+    private static VoussoirYard nearlyUsedUp() {
+        VoussoirYard yard = Arches.beam(2, 4);
+        yard.addBlocks(4, 4, 1, 1, true);
+        yard.addBlocks(3, 3, 9, 1, true);
+        yard.addBlocks(4, 4, 99, 1, true);
+        yard.addMason(9, 1);
+        yard.addMason(9, 1);
+        yard.cut(0, 0, 0);
+        yard.cut(1, 2, 1);
         return yard;
     }
 
@@ -93,7 +107,8 @@ public final class RefusedCallsTest {
                     {0, 7, 7, 7, 7}, {0, 0, 4, 0, 0}, {1, 20, 0, 20, 4}, {0, 0, 0, 0, 4}, {1, 4, 0, 4, 4},
                     {0, 2, 0, 0, 0}, {4, 14, 0, 16, 0}});
             case "addBlocks":
-                return blockRows(new int[][] {{0, 5, 5, 5}, {5, 21, 5, 5}, {5, 5, 0, 5}, {5, 5, 5, 1000}, {5, 5, 5, 5}});
+                return blockRows(new int[][] {{0, 5, 5, 5}, {5, 21, 5, 5}, {5, 5, 0, 5}, {5, 5, 5, 1000},
+                    {5, 5, 5, 5}});
             case "addMason":
                 return rows(new int[][] {{0, 5}, {100, 5}, {5, -1}, {5, 10}, {5, 5}});
             case "setDensity":
@@ -104,7 +119,7 @@ public final class RefusedCallsTest {
                 return rows(new int[][] {{0}, {100}, {-1}});
             case "cut":
                 return rows(new int[][] {{-1, 0, 0}, {7, 0, 0}, {0, 6, 0}, {0, -1, 0}, {0, 0, 4}, {0, 0, -1}, {0, 0, 0},
-                    {1, 2, 1}});
+                    {0, 1, 0}, {1, 1, 1}, {1, 2, 1}});
             case "load":
                 return rows(new int[][] {{-1, 5}, {7, 5}, {0, -1}, {0, 20001}, {0, 5}, {1, 0}});
             case "set":
@@ -143,18 +158,21 @@ public final class RefusedCallsTest {
     }
 
     private static void tryFrom(String name, Start start) {
-        String want = life(start.yard());
+        String[] want = {life(start.yard(), false), life(start.yard(), true)};
         for (Method method : Calls.methodsOf(VoussoirYard.class)) {
             List<Object[]> rows = method.getParameterCount() == 0 ? List.<Object[]>of(new Object[0])
                 : argumentsFor(method.getName());
             for (Object[] row : rows) {
-                VoussoirYard yard = start.yard();
-                String outcome = Calls.outcome(yard, method.getName(), row);
-                if (outcome.startsWith("throws") || TELLING.contains(method.getName())) {
-                    MET.add(method.getName() + " " + outcome);
-                    String got = life(yard);
-                    Due.report(name + ", then " + method.getName() + List.of(row) + ", " + outcome + ": it goes on",
-                        got.equals(want) ? "the same" : firstDifference(got, want), "the same");
+                for (int order = 0; order < 2; order++) {
+                    VoussoirYard yard = start.yard();
+                    String outcome = Calls.outcome(yard, method.getName(), row);
+                    if (outcome.startsWith("throws") || TELLING.contains(method.getName())) {
+                        MET.add(method.getName() + " " + outcome);
+                        String got = life(yard, order == 1);
+                        Due.report(name + ", then " + method.getName() + List.of(row) + ", " + outcome
+                            + ": it goes on", got.equals(want[order]) ? "the same"
+                            : firstDifference(got, want[order]), "the same");
+                    }
                 }
             }
         }
@@ -182,19 +200,34 @@ public final class RefusedCallsTest {
 
     // ---- what becomes of a yard
 
-    /** All that can be told of a yard, and then what it answers to many calls, each of which may change it. */
-    private static String life(VoussoirYard yard) {
+    /**
+     * All that can be told of a yard, and then what it answers to many calls, each of which may change it. There are
+     * two orders, since the first calls of one order might hide what the refused call has changed.
+     */
+    private static String life(VoussoirYard yard, boolean isCentreFirst) {
         StringBuilder text = new StringBuilder();
         tellAll(yard, text);
-        note(yard, text, "strike");
-        note(yard, text, "load", 0, 7);
-        note(yard, text, "set", 1, 1);
+        if (isCentreFirst) {
+            note(yard, text, "setCentre", 777);
+            setAll(yard, text);
+        } else {
+            note(yard, text, "strike");
+            note(yard, text, "load", 0, 7);
+        }
         note(yard, text, "pass", 1);
         for (int mason = 0; mason < 4; mason++) {
             note(yard, text, "cut", 0, 0, mason);
             note(yard, text, "cut", 1, 1, mason);
+            note(yard, text, "cut", 0, 2, mason);
         }
         tellAll(yard, text);
+        riseAndFall(yard, text);
+        addMore(yard, text);
+        tellAll(yard, text);
+        return text.toString();
+    }
+
+    private static void riseAndFall(VoussoirYard yard, StringBuilder text) {
         note(yard, text, "moveJoint", 0, 0, 0, 0, 4);
         note(yard, text, "moveJoint", 0, 2, 0, 0, 0);
         note(yard, text, "setCentre", 99999);
@@ -209,6 +242,9 @@ public final class RefusedCallsTest {
         note(yard, text, "load", 1, 20000);
         note(yard, text, "setCentre", 99998);
         setAll(yard, text);
+    }
+
+    private static void addMore(VoussoirYard yard, StringBuilder text) {
         note(yard, text, "moveJoint", 0, 0, 0, 0, 3);
         note(yard, text, "drawJoint", 20, 0, 20, 20);
         note(yard, text, "setDensity", 3);
@@ -217,8 +253,6 @@ public final class RefusedCallsTest {
             note(yard, text, "addMason", 50, 1);
             note(yard, text, "cut", 0, more, 3);
         }
-        tellAll(yard, text);
-        return text.toString();
     }
 
     private static void setAll(VoussoirYard yard, StringBuilder text) {

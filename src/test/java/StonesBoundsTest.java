@@ -64,6 +64,7 @@ public final class StonesBoundsTest {
         loadWhatDoesNotStand();
         loadInPlaceOfTheOther();
         loadThatIsJustBorne();
+        loadWithTheGripThatItHas();
         loadTakenAwayThatHeldTheArch();
         fallBreaksSetStones();
         fallEmptiesPlaces();
@@ -73,7 +74,9 @@ public final class StonesBoundsTest {
         standsFromTheStrikeToTheFall();
         daysOutOfRange();
         daysPassed();
-        soundInEachState();
+        soundDrawings();
+        soundWithStones();
+        soundWhileItStands();
         Due.end();
     }
 
@@ -616,11 +619,15 @@ public final class StonesBoundsTest {
         return yard;
     }
 
+    /** With the thrust 36 alone; its stones are all set today. */
+    private static VoussoirYard justSafeAtTheGrip5() {
+        return setToday(new int[][] {{6, 1, 4, 1}, {7, 3, 5, 4}, {8, 4, 8, 6}, {11, 4, 11, 6}, {13, 3, 14, 4},
+            {14, 1, 16, 1}});
+    }
+
     private static void strikeWithTooLittleGrip() {
         Doc.says("Promise 25", "Throws `IllegalStateException` if the arch is not safe with the grip that it has");
-        // just safe at the grip 5, with the thrust 36 alone
-        VoussoirYard yard = setToday(new int[][] {{6, 1, 4, 1}, {7, 3, 5, 4}, {8, 4, 8, 6}, {11, 4, 11, 6},
-            {13, 3, 14, 4}, {14, 1, 16, 1}});
+        VoussoirYard yard = justSafeAtTheGrip5();
         Due.fails(UNSAFE, "the grip 3", yard::strike);
         yard.pass(9);
         Due.fails(UNSAFE, "the grip 4", yard::strike);
@@ -708,6 +715,24 @@ public final class StonesBoundsTest {
         Due.is(true, "it stands", arch::stands);
         Due.is(false, "one more", () -> arch.load(2, most + 1));
         Due.is(false, "it does not stand", arch::stands);
+    }
+
+    private static void loadWithTheGripThatItHas() {
+        Doc.says("Terms", "if it is not safe with one, it falls");
+        VoussoirYard young = justSafeAtTheGrip5();
+        young.pass(10);
+        young.strike();
+        Due.is(0, "at the grip 5 it bears nothing", () -> young.bears(2, 5));
+        Due.is(true, "the load 0", () -> young.load(2, 0));
+        Due.is(false, "the load 1", () -> young.load(2, 1));
+        VoussoirYard old = justSafeAtTheGrip5();
+        old.pass(10);
+        old.strike();
+        old.pass(5);
+        int most = old.bears(2, 6);
+        Due.is(true, "at the grip 6 it bears more", () -> most > 0 && most < old.bears(2, 8));
+        Due.is(true, "all that it bears", () -> old.load(2, most));
+        Due.is(false, "one more", () -> old.load(2, most + 1));
     }
 
     private static void loadTakenAwayThatHeldTheArch() {
@@ -828,24 +853,39 @@ public final class StonesBoundsTest {
         Due.is(120 + 508 * 99 + 99, "the last one of 512 calls", () -> yard.pass(99));
     }
 
-    private static void soundInEachState() {
-        Doc.says("Promise 33", "Returns whether this holds.");
+    private static void soundDrawings() {
+        Doc.says("Promise 33", "Checks whether the areas of the places are, together, that of the whole drawing "
+            + "gone round along the inner points and back along the outer ones");
         Due.is(true, "no joint", () -> new VoussoirYard().isSound());
         for (int places = 0; places <= 7; places++) {
             int number = places;
             Due.is(true, number + " places", () -> Arches.beam(number, 2).isSound());
         }
-        Due.is(true, "none of three is set", () -> Arches.filledBeam(3, 0).isSound());
-        Due.is(true, "one of three is set", () -> Arches.filledBeam(3, 1).isSound());
-        Due.is(true, "set, not safe, and on the centre", () -> Arches.filled().isSound());
+        Due.is(true, "away from the corner of the sheet", () -> Arches.round().isSound());
+        Due.is(true, "in its far corner",
+            () -> Arches.drawn(new int[][] {{16, 17, 15, 20}, {19, 16, 20, 20}}).isSound());
+    }
+
+    private static void soundWithStones() {
+        Doc.says("Promise 33", "each stone that is set fits its place");
+        for (int filled = 0; filled <= 3; filled++) {
+            int number = filled;
+            Due.is(true, number + " of 3 are set", () -> Arches.filledBeam(3, number).isSound());
+        }
+        VoussoirYard moved = Arches.filledBeam(4, 1);
+        moved.moveJoint(3, 13, 1, 11, 5);
+        Due.is(true, "stones that are not set fit no more", moved::isSound);
+    }
+
+    private static void soundWhileItStands() {
+        Doc.says("Promise 33", "and an arch that stands is safe");
+        Doc.says("Promise 33", "Returns whether this holds.");
+        Due.is(true, "not safe, and on its centre", () -> Arches.filled().isSound());
         VoussoirYard arch = Arches.standing();
         Due.is(true, "it stands", arch::isSound);
         arch.load(1, 1015);
         Due.is(true, "it just stands", arch::isSound);
         arch.load(1, 1016);
         Due.is(true, "it fell", arch::isSound);
-        VoussoirYard moved = Arches.filledBeam(4, 1);
-        moved.moveJoint(3, 13, 1, 11, 5);
-        Due.is(true, "what is not set was moved", moved::isSound);
     }
 }

@@ -17,6 +17,7 @@ public final class ThrustBoundsTest {
         whateverIsSet();
         pushFrom0On();
         lineThroughInnerPoint();
+        lineBeyondAPointByTheLeast();
         lineThroughOuterPoint();
         lineThroughPointsOfAnArch();
         weightsAndLoadsOfThePlacesBetween();
@@ -131,7 +132,8 @@ public final class ThrustBoundsTest {
 
     /** The same to the left of a foot from 8 to 14. */
     private static VoussoirYard leftLeaningPile(int first, int second) {
-        return Arches.drawn(new int[][] {{14, 0, 8, 0}, {14 - first, 4, 8 - first, 4}, {14 - second, 8, 8 - second, 8}});
+        return Arches.drawn(new int[][] {{14, 0, 8, 0}, {14 - first, 4, 8 - first, 4},
+            {14 - second, 8, 8 - second, 8}});
     }
 
     /** A pile on a foot that is so many tenths lower at its left end; its other joints lie level. */
@@ -153,6 +155,17 @@ public final class ThrustBoundsTest {
         Due.is(true, "just through the inner point of the foot", () -> rightLeaningPile(3, 6).isSafe(0));
         Due.is(false, "beyond it by a quarter", () -> rightLeaningPile(3, 7).isSafe(0));
         Due.is(true, "short of it by a quarter", () -> rightLeaningPile(3, 5).isSafe(0));
+    }
+
+    /** A pile whose turning about its points misses the balance by 1, where the grip is no matter. */
+    private static void lineBeyondAPointByTheLeast() {
+        Doc.says("Terms", "the line goes through the joint, between its points or through one of them");
+        int[][] joints = {{4, 0, 3, 0}, {4, 2, 3, 2}, {7, 3, 4, 3}, {7, 4, 5, 4}};
+        for (int grip = 6; grip <= 10; grip++) {
+            int with = grip;
+            Due.is(false, "another way to find it", () -> new CornerOracle(joints, 1, new int[3], with).isSafe());
+            Due.is(false, "the grip " + grip, () -> Arches.drawn(joints).isSafe(with));
+        }
     }
 
     private static void lineThroughOuterPoint() {
