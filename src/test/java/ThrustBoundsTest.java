@@ -22,6 +22,8 @@ public final class ThrustBoundsTest {
         lineThroughPointsOfAnArch();
         weightsAndLoadsOfThePlacesBetween();
         noPull();
+        noPullAtTheFirstJoint();
+        noPullAtTheLastJoint();
         justAsManyTenths();
         forceOf0();
         thrustInFractions();
@@ -216,6 +218,24 @@ public final class ThrustBoundsTest {
             Due.is(false, "a chain that hangs, at the grip " + grip, () -> hanging.isSafe(with));
             Due.is(true, "a pile that goes down, at the grip " + grip, () -> above.isSafe(with));
         }
+    }
+
+    /** The upper stone turns to the left over x = 2: at its centre of gravity, 1.89, it weighs 18. */
+    private static void noPullAtTheFirstJoint() {
+        Doc.says("Terms", "does not pull there");
+        VoussoirYard yard = Arches.drawn(new int[][] {{0, 4, 1, 4}, {2, 2, 4, 2}, {2, 0, 4, 0}});
+        Due.is(false, "a pull upwards of 1 would hold it", () -> yard.isSafe(0));
+        yard.moveJoint(0, 1, 4, 2, 4);
+        Due.is(true, "its centre of gravity at 2.33", () -> yard.isSafe(0));
+    }
+
+    /** The upper stone turns to the right over x = 2: at its centre of gravity, 2.11, it weighs 9. */
+    private static void noPullAtTheLastJoint() {
+        Doc.says("Terms", "does not pull there");
+        VoussoirYard yard = Arches.drawn(new int[][] {{2, 0, 1, 0}, {2, 2, 0, 2}, {4, 3, 3, 3}});
+        Due.is(false, "a pull upwards of a half would hold it", () -> yard.isSafe(0));
+        yard.moveJoint(2, 3, 3, 2, 3);
+        Due.is(true, "its centre of gravity at 1.67", () -> yard.isSafe(0));
     }
 
     private static void justAsManyTenths() {
