@@ -5,6 +5,7 @@ public final class EnduranceTest {
     private static final Numbers NUMBERS = new Numbers();
 
     public static void main(String[] args) {
+        Doc.says("Not promised", "nothing about an object after its 512th call");
         VoussoirYard yard = Arches.standing();
         callAll("an arch that stands", yard);
         VoussoirYard filled = Arches.filled();

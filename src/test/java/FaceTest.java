@@ -3,7 +3,6 @@ import java.lang.reflect.Constructor;
 import java.lang.reflect.Field;
 import java.lang.reflect.Method;
 import java.lang.reflect.Modifier;
-import java.nio.charset.StandardCharsets;
 import java.nio.file.Files;
 import java.nio.file.Path;
 import java.util.Arrays;
@@ -12,16 +11,16 @@ import java.util.TreeSet;
 import java.util.regex.Matcher;
 import java.util.regex.Pattern;
 
-/** The public face as the document gives it, and the rules of LANGUAGE.md that can be counted. */
+/** The public face as the document gives it: its calls, nothing beside them, and what is said ahead of them. */
 public final class FaceTest {
     private static final Path DOCUMENT = Path.of("../shared/DOC.md");
     private static final Path SOURCE = Path.of("src/main/java/VoussoirYard.java");
 
     public static void main(String[] args) throws IOException {
+        Doc.says("The public face", "public final class VoussoirYard {");
         methodsAreThoseOfTheDocument();
         nothingElseIsOpen();
-        classesStaySmall();
-        sourceKeepsToTheLanguage();
+        headingsAreThoseOfTheDocument();
         Due.end();
     }
 
@@ -57,57 +56,43 @@ public final class FaceTest {
         for (Field field : VoussoirYard.class.getDeclaredFields()) {
             Due.report(field.getName() + " is private", "" + Modifier.isPrivate(field.getModifiers()), "true");
         }
+        namesOfTheFaceAreUsedOnce(VoussoirYard.class);
+        for (Class<?> inside : VoussoirYard.class.getDeclaredClasses()) {
+            namesOfTheFaceAreUsedOnce(inside);
+        }
+    }
+
+    private static void namesOfTheFaceAreUsedOnce(Class<?> type) {
         Set<String> face = new TreeSet<>();
         for (Method method : VoussoirYard.class.getMethods()) {
             face.add(method.getName());
         }
-        for (Class<?> inside : VoussoirYard.class.getDeclaredClasses()) {
-            Due.report(inside.getName(), Modifier.toString(inside.getModifiers()), "private static final");
-            for (Method method : inside.getDeclaredMethods()) {
-                Due.report(inside.getName() + "." + method.getName() + " bears a name of the face",
-                    "" + face.contains(method.getName()), "false");
+        for (Method method : type.getDeclaredMethods()) {
+            boolean isOfTheFace = type == VoussoirYard.class && Modifier.isPublic(method.getModifiers());
+            Due.report(type.getName() + "." + method.getName() + " bears a name of the face, but is none of it",
+                "" + (!isOfTheFace && face.contains(method.getName())), "false");
+        }
+    }
+
+    /** "Ahead of the calls `a`, `b` the interface says: ---- c.": so does the source, ahead of these calls alone. */
+    private static void headingsAreThoseOfTheDocument() throws IOException {
+        Matcher due = Pattern.compile("Ahead of the calls (.*?) the interface says: (---- .*?)\\.")
+            .matcher(Doc.parts().get("Terms"));
+        StringBuilder wanted = new StringBuilder();
+        while (due.find()) {
+            wanted.append(due.group(2)).append(": ").append(due.group(1).replace("`", "")).append("\n");
+        }
+        Matcher line = Pattern.compile("(?m)^    // (---- .*)$|^    public \\w+ (\\w+)\\(")
+            .matcher(Files.readString(SOURCE));
+        StringBuilder got = new StringBuilder();
+        String heading = "";
+        while (line.find()) {
+            if (line.group(1) != null) {
+                heading = line.group(1);
+            } else {
+                got.append(got.indexOf(heading + ": ") < 0 ? "\n" + heading + ": " : ", ").append(line.group(2));
             }
         }
-    }
-
-    private static void classesStaySmall() {
-        Class<?>[] inside = VoussoirYard.class.getDeclaredClasses();
-        Due.report("at most 12 classes", "" + (inside.length + 1 <= 12), "true");
-        checkClass(VoussoirYard.class);
-        for (Class<?> one : inside) {
-            checkClass(one);
-        }
-    }
-
-    private static void checkClass(Class<?> type) {
-        long fields = 0;
-        for (Field field : type.getDeclaredFields()) {
-            boolean isConstant = Modifier.isStatic(field.getModifiers());
-            fields += isConstant ? 0 : 1;
-            Due.report(field + " is final if it is static",
-                "" + (!isConstant || Modifier.isFinal(field.getModifiers())), "true");
-        }
-        Due.report(type.getName() + " has at most 20 fields", "" + (fields <= 20), "true");
-        for (Method method : type.getDeclaredMethods()) {
-            Due.report(method + " has at most 7 parameters", "" + (method.getParameterCount() <= 7), "true");
-        }
-    }
-
-    private static void sourceKeepsToTheLanguage() throws IOException {
-        String text = Files.readString(SOURCE, StandardCharsets.ISO_8859_1);
-        Due.report("all signs are 1 to 127", "" + text.chars().allMatch(sign -> sign >= 1 && sign <= 127), "true");
-        Matcher imports = Pattern.compile("(?m)^(import|package).*$").matcher(text);
-        StringBuilder heads = new StringBuilder();
-        while (imports.find()) {
-            heads.append(imports.group());
-        }
-        Due.report("the imports", heads.toString(), "import java.util.NoSuchElementException;");
-        String code = text.replaceAll("(?s)/\\*.*?\\*/", "").replaceAll("//[^\n]*", "");
-        String[] barred = {"->", "::", "\\bcatch\\b", "\\bfinally\\b", "\\bsynchronized\\b", "\\bassert\\b",
-            "Exact\\b", "\\bSystem\\.(?!arraycopy)", "\" *\\+", "\\+ *\"", "\\bstatic *\\{", "\\bhashCode\\b",
-            "\\btoString\\b(?!\\(\\);)", "\\bThread\\b", "\\bRandom\\b", "\\bObject\\b", "\\bwhile *\\(true\\)"};
-        for (String one : barred) {
-            Due.report("the source holds " + one, "" + Pattern.compile(one).matcher(code).find(), "false");
-        }
+        Due.report("the headings", got.toString().trim(), wanted.toString().trim());
     }
 }

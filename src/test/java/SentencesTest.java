@@ -29,7 +29,9 @@ public final class SentencesTest {
             if (part.getKey().startsWith("Promise ")) {
                 eachRangeHasATest(part.getKey(), part.getValue());
                 eachExceptionHasATest(part.getKey(), part.getValue());
-                eachPromiseHasATest(part.getKey());
+            }
+            if (!part.getKey().startsWith("# ")) {
+                eachPartHasATest(part.getKey());
             }
         }
         eachSentenceOfTheTermsHasATest();
@@ -85,7 +87,7 @@ public final class SentencesTest {
         }
     }
 
-    private static void eachPromiseHasATest(String part) {
+    private static void eachPartHasATest(String part) {
         Due.report(part, SAID.containsKey(part) ? "has a test" : "has none", "has a test");
     }
 
